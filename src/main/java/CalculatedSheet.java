@@ -224,8 +224,7 @@ public final class CalculatedSheet {
     public int valueByAsking(int cell) throws IllegalArgumentException, IllegalStateException {
         requireCell(cell);
         trial.become(sheet.cells);
-        trial.forgetResults();
-        trial.computeForAsking(cell);
+        trial.computeAnew(cell);
         return valueIn(trial, cell);
     }
 
@@ -689,7 +688,6 @@ public final class CalculatedSheet {
             number = 0;
             depth = 0;
             owners[0] = WHOLE;
-            parts[0] = 1;
             compared[0] = false;
             mode = OPERAND;
         }
@@ -1376,15 +1374,13 @@ public final class CalculatedSheet {
             return computed;
         }
 
-        void computeForAsking(int cell) {
-            links.markNeededBy(cell);
-            computeMarked();
-        }
-
-        void forgetResults() {
+        /** Forgets all results, and computes again what the cell needs. */
+        void computeAnew(int cell) {
             for (int place = 0; place < links.formulaCount; place++) {
                 cells.putResult(links.formulaCells[place], 0, NO_ERROR);
             }
+            links.markNeededBy(cell);
+            computeMarked();
         }
 
         int computeMarked() {
@@ -1478,9 +1474,7 @@ public final class CalculatedSheet {
                 case Token.CALL:
                     return call(Token.content(token), depth + 1);
                 case Token.SIGN:
-                    long inside = comparison(depth + 1);
-                    at++;
-                    return inside;
+                    return bracketed(depth + 1);
                 default:
                     return failed(REFERENCE);
             }
@@ -1498,11 +1492,15 @@ public final class CalculatedSheet {
                 return choice(depth);
             }
             if (word == ABS) {
-                long inside = comparison(depth);
-                at++;
-                return Math.abs(inside);
+                return Math.abs(bracketed(depth));
             }
             return gathered(word, depth);
+        }
+
+        private long bracketed(int depth) {
+            long inside = comparison(depth);
+            at++;
+            return inside;
         }
 
         private long choice(int depth) {

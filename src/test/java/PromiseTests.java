@@ -36,6 +36,7 @@ public final class PromiseTests {
         rings();
         theOrder();
         chains();
+        aSheetFullOfFormulas();
         counts();
         computed();
         totals();
@@ -732,6 +733,38 @@ public final class PromiseTests {
         longest.sheet.copyBlock(0, 37, 160);
         due(160, longest.sheet.chain(0), "a chain through the sheet");
         due("REFERENCE", longest.told("A1"), "the error of its beginning, which refers to a row 21");
+    }
+
+    private static void aSheetFullOfFormulas() {
+        CHECKS.about("a sheet full of formulas");
+        Desk desk = new Desk().with("A1", "=B1", "B1", "=C1");
+        desk.sheet.copyBlock(0, 1, 2);
+        desk.sheet.copyBlock(0, 3, 4);
+        desk.sheet.copyBlock(0, 1, 8);
+        desk.with("J1", "=A2");
+        for (int row = 1; row < 20; row++) {
+            desk.sheet.copyBlock(0, 9, 10 * row);
+        }
+        due(200, desk.enter("J20", "=7"), "enter");
+        due(200, desk.sheet.formulas(), "formulas");
+        due(200, desk.sheet.chain(0), "chain");
+        due(7, desk.value("A1"), "value");
+        due(7, desk.sheet.valueByAsking(0), "valueByAsking");
+        due(199, desk.sheet.allDependents(199), "allDependents");
+        due(199, desk.sheet.orderAt(0), "the first one in the order");
+        due(0, desk.sheet.orderAt(199), "the last one in the order");
+        due(-1, desk.sheet.orderAt(200), "behind the order");
+        due(50, desk.sheet.numberFor(199, 0, 50), "numberFor");
+        due(199, desk.sheet.setNumber(199, 3), "setNumber");
+        due(600L, desk.sheet.rowTotal(0) * 20, "rowTotal");
+        due(200, desk.enter("J20", "=A1"), "a ring through the sheet");
+        due(200, desk.sheet.errors(), "errors");
+        CHECKS.yes(desk.sheet.isRing(77), "isRing");
+        due(-1, desk.sheet.orderAt(0), "no order");
+        due(0, desk.sheet.errorsWithout(77), "errorsWithout");
+        desk.with("A1", "=COUNT(A1:J20)");
+        desk.sheet.copyBlock(0, 0, 199);
+        due("=COUNT(#REF)", desk.formula("J20"), "a copy whose corner leaves");
     }
 
     private static void counts() {

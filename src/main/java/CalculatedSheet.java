@@ -1565,16 +1565,16 @@ public final class CalculatedSheet {
             int lastRow = Math.max(corner / COLUMNS, other / COLUMNS);
             int firstColumn = Math.min(corner % COLUMNS, other % COLUMNS);
             int lastColumn = Math.max(corner % COLUMNS, other % COLUMNS);
-            long joined = result;
+            long whole = result;
             for (int row = Math.min(corner / COLUMNS, other / COLUMNS); row <= lastRow; row++) {
                 for (int column = firstColumn; column <= lastColumn && error == NO_ERROR; column++) {
                     int cell = COLUMNS * row + column;
                     if (cells.kinds[cell] != EMPTY) {
-                        joined = joined(word, joined, word == COUNT ? 1 : valueOf(cell));
+                        whole = joined(word, whole, word == COUNT ? 1 : valueOf(cell));
                     }
                 }
             }
-            return joined;
+            return whole;
         }
 
         private long joined(int word, long result, long value) {
@@ -1636,12 +1636,12 @@ public final class CalculatedSheet {
         final int tokenFor(int token) {
             if (Token.kind(token) == Token.SPOT) {
                 int spot = spotFor(Token.content(token));
-                return spot < 0 ? Token.BROKEN : Token.of(Token.SPOT, spot);
+                return spot < 0 ? Token.of(Token.BROKEN, 0) : Token.of(Token.SPOT, spot);
             }
             if (Token.kind(token) == Token.RANGE) {
                 int first = cornerFor(Token.firstCorner(token), Token.secondCorner(token));
                 int second = cornerFor(Token.secondCorner(token), Token.firstCorner(token));
-                return first < 0 || second < 0 ? Token.BROKEN : Token.ofRange(first, second);
+                return first < 0 || second < 0 ? Token.of(Token.BROKEN, 0) : Token.ofRange(first, second);
             }
             return token;
         }

@@ -1338,7 +1338,7 @@ public final class CalculatedSheet {
     private static final class Calculation {
         private static final long GREATEST = 999999999L;
         /** No result is so small: it tells that MIN and MAX have met nothing. */
-        private static final long NOTHING = Long.MIN_VALUE;
+        private static final long NOTHING = -GREATEST - 1;
         /** 60 characters open and close 29 brackets. */
         private static final int DEEPEST = 30;
 

@@ -2,6 +2,35 @@
 final class Desk {
     final CalculatedSheet sheet = new CalculatedSheet();
 
+    /** A chain through the whole sheet: each cell refers to the next one, the last one has the content. */
+    static Desk full(String last) {
+        Desk desk = new Desk().with("A1", "=B1", "B1", "=C1");
+        desk.sheet.copyBlock(0, 1, 2);
+        desk.sheet.copyBlock(0, 3, 4);
+        desk.sheet.copyBlock(0, 0, 8);
+        desk.with("J1", "=A2");
+        for (int row = 1; row < 20; row++) {
+            desk.sheet.copyBlock(0, 9, 10 * row);
+        }
+        return desk.with("J20", last);
+    }
+
+    /** The same content in every cell. */
+    static Desk everywhere(String content) {
+        Desk desk = new Desk().with("A1", content);
+        for (int column = 1; column < 10; column++) {
+            desk.sheet.copyBlock(0, 0, column);
+        }
+        for (int row = 1; row < 20; row++) {
+            desk.sheet.copyBlock(0, 9, 10 * row);
+        }
+        return desk;
+    }
+
+    static String name(int cell) {
+        return (char) ('A' + cell % 10) + String.valueOf(cell / 10 + 1);
+    }
+
     static int at(String name) {
         return 10 * (Integer.parseInt(name.substring(1)) - 1) + name.charAt(0) - 'A';
     }
@@ -49,9 +78,10 @@ final class Desk {
         return formula(at(name));
     }
 
-    private String formula(int cell) {
+    String formula(int cell) {
         StringBuilder text = new StringBuilder();
-        for (int place = 0; place < sheet.formulaLength(cell); place++) {
+        int length = sheet.formulaLength(cell);
+        for (int place = 0; place < length; place++) {
             text.append((char) sheet.formulaCharacter(cell, place));
         }
         return text.toString();
@@ -62,7 +92,7 @@ final class Desk {
         return told(at(name));
     }
 
-    private String told(int cell) {
+    String told(int cell) {
         String told = "";
         told += sheet.isDivision(cell) ? "DIVISION" : "";
         told += sheet.isTooGreat(cell) ? "SIZE" : "";
@@ -87,6 +117,30 @@ final class Desk {
             seen.append(' ').append(sheet.orderAt(place));
         }
         return seen.append('\n').toString();
+    }
+
+    /** What can be seen of the dependence of some cells. */
+    String lookAtDependence() {
+        String seen = sheet.formulas() + " ";
+        for (int cell : new int[] {0, 1, 2, 3, 13, 199}) {
+            seen += sheet.references(cell) + " " + sheet.referenceAt(cell, 0) + " " + sheet.dependents(cell) + " ";
+            seen += sheet.allDependents(cell) + " " + sheet.dependsOn(0, cell) + " " + sheet.isRing(cell) + " ";
+            seen += sheet.placeInOrder(cell) + " " + sheet.orderAt(cell) + " " + Checks.outcome(() -> sheet.chain(cell))
+                + ", ";
+        }
+        return seen;
+    }
+
+    /** What can be seen of the pad, as it is and with an ending that makes it whole; the desk is used up by that. */
+    String lookAtPad(String ending) {
+        String seen = sheet.contentFault() + " " + sheet.ordersFault() + " ";
+        for (int place = 0; place < ending.length(); place++) {
+            seen += sheet.type(ending.charAt(place)) + " ";
+        }
+        seen += sheet.contentFault() + " " + sheet.ordersFault() + " ";
+        seen += Checks.outcome(() -> sheet.enter(150)) + " " + Checks.outcome(sheet::runOrders) + " ";
+        seen += formula(150) + " " + told(150) + " " + told(0) + " " + formula(1) + " " + told(1);
+        return seen + " " + sheet.clearPad();
     }
 
     /** What can be seen of everything; the desk is used up by that. */

@@ -19,8 +19,8 @@ public final class LanguageTests {
     private static final Path DOCUMENT = Path.of("../shared/DOC.md");
     private static final String[] BANNED = {"\\bpackage\\b", "\\bimport\\b", "->", "::", "@", "\\bsynchronized\\b",
         "\\bassert\\b", "\\bfinally\\b", "\\btry\\b", "\\bcatch\\b", "\\bSystem\\.(?!arraycopy)", "\\bThread\\b",
-        "\\bvar\\b", "\\bprotected\\b", "\\bhashCode\\b", "\\btoString\\b", "\\w+Exact\\b", "\\bObject\\b",
-        "\"\\s*\\+", "\\+\\s*\"", "\\+=\\s*\"", "\\b(float|Float|Double|Random|Scanner|Map|Set)\\b"};
+        "\\bvar\\b", "\\bprotected\\b", "\\bhashCode\\b", "\\btoString\\b", "\\w+Exact\\b", "\\b(Integer|Long)\\.M",
+        "\\bObject\\b", "\"\\s*\\+", "\\+\\s*\"", "\\+=\\s*\"", "\\b(float|Float|Double|Random|Scanner|Map|Set)\\b"};
 
     private LanguageTests() {
     }

@@ -1,5 +1,3 @@
-import java.util.function.Supplier;
-
 /** The promises one by one: ordinary inputs, the edges that the document names, wrong inputs. */
 public final class PromiseTests {
     private static final Checks CHECKS = new Checks();
@@ -737,14 +735,7 @@ public final class PromiseTests {
 
     private static void aSheetFullOfFormulas() {
         CHECKS.about("a sheet full of formulas");
-        Desk desk = new Desk().with("A1", "=B1", "B1", "=C1");
-        desk.sheet.copyBlock(0, 1, 2);
-        desk.sheet.copyBlock(0, 3, 4);
-        desk.sheet.copyBlock(0, 1, 8);
-        desk.with("J1", "=A2");
-        for (int row = 1; row < 20; row++) {
-            desk.sheet.copyBlock(0, 9, 10 * row);
-        }
+        Desk desk = Desk.full("=7");
         due(200, desk.enter("J20", "=7"), "enter");
         due(200, desk.sheet.formulas(), "formulas");
         due(200, desk.sheet.chain(0), "chain");

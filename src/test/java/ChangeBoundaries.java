@@ -236,7 +236,16 @@ final class ChangeBoundaries {
         bounds.due("=#REF+A1", copied("=A1+A2", 11, 1), "above the first row");
         bounds.due("=$J2+#REF+J$1", copied("=$J1+J1+I$1", 0, 11), "a column that is fixed does not leave");
         bounds.due("=B$20+#REF+$A20", copied("=A$20+A20+$A19", 0, 11), "a row that is fixed does not leave");
-        bounds.due("=#REF+$J$20", copied("=J$20+$J$20", 0, 1), "a fixed row, but the column leaves");
+        bounds.due("=#REF+$J$20", copied("=J$20+$J$20", 0, 1), "a fixed row, but the column leaves to the right");
+        bounds.due("=#REF+$A$1+#REF", copied("=A$1+$A$1+A$20", 11, 10),
+            "a fixed row, but the column leaves to the left");
+        bounds.due("=#REF+$A$1+#REF", copied("=$A1+$A$1+$J1", 11, 1), "a fixed column, but the row leaves upwards");
+        bounds.due("=#REF+$A$20+#REF", copied("=$A20+$A$20+$J20", 0, 10), "a fixed column, but the row leaves down");
+        bounds.due("=#REF+#REF+A7", copied("=A5+A20+B7", 11, 10), "not into the row above");
+        bounds.due("=#REF+#REF+J7", copied("=J5+J19+I7", 0, 1), "not into the row below");
+        bounds.due("=#REF+#REF", copied("=E1+J1", 11, 1), "every column leaves upwards");
+        bounds.due("=SUM(#REF)+SUM(#REF)", copied("=SUM(A$5:B7)+SUM(B$5:A7)", 11, 10), "a corner with a fixed row");
+        bounds.due("=SUM(#REF)+SUM(#REF)", copied("=SUM($B1:C7)+SUM(C7:$B1)", 11, 1), "a corner with a fixed column");
         bounds.due("=SUM(I1:J1)+SUM(#REF)+SUM(#REF)", copied("=SUM(H1:I1)+SUM(I1:J1)+SUM(J1:I1)", 0, 1),
             "corners to the right");
         bounds.due("=SUM(A1:B1)+SUM(#REF)+SUM(#REF)", copied("=SUM(B1:C1)+SUM(A1:B1)+SUM(B1:A1)", 11, 10),

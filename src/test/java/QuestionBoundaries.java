@@ -421,6 +421,10 @@ final class QuestionBoundaries {
         bounds.promise(47, "Returns the mean value of the cells that are not empty and have no error.");
         Desk desk = new Desk().with("A1", "0");
         bounds.due(0.0, desk.sheet.meanValue(), "the number 0");
+        for (String content : new String[] {"7", "-999999", "=5"}) {
+            Desk one = new Desk().with("J20", content);
+            bounds.due((double) one.value("J20"), one.sheet.meanValue(), content + " alone");
+        }
         desk.with("J20", "1");
         bounds.due(0.5, desk.sheet.meanValue(), "a number that is 0 counts");
         desk.with("B1", "=J20-5");

@@ -280,6 +280,12 @@ final class ValueBoundaries {
         bounds.due("999999999 -999999999 0 -3 -3", desk.sheet.valueByAsking(2) + " " + desk.sheet.valueByAsking(12)
             + " " + desk.sheet.valueByAsking(88) + " " + desk.sheet.valueByAsking(50) + " "
             + desk.sheet.valueByAsking(199), "valueByAsking");
+        Desk replaced = new Desk().with("A1", "=1", "B1", "=2");
+        bounds.due("1 2", replaced.sheet.valueByAsking(0) + " " + replaced.sheet.valueByAsking(1), "two formulas");
+        replaced.with("A1", "5", "B1", "=B1");
+        bounds.due("5", Checks.outcome(() -> replaced.sheet.valueByAsking(0)), "a number where a formula was");
+        replaced.with("A1", "");
+        bounds.due("0", Checks.outcome(() -> replaced.sheet.valueByAsking(0)), "nothing where a formula was");
         CalculatedSheet each = errors().sheet;
         for (int cell = 0; cell < 200; cell++) {
             int one = cell;

@@ -10,6 +10,7 @@ public final class BoundaryTests {
 
     public static void main(String[] args) throws IOException {
         Bounds bounds = new Bounds();
+        new WholeBoundaries(bounds).test();
         new PadBoundaries(bounds).test();
         new ChangeBoundaries(bounds).test();
         new ValueBoundaries(bounds).test();

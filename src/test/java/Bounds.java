@@ -25,9 +25,9 @@ final class Bounds {
         sentences.name(Sentences.TERMS, sentence);
     }
 
-    /** A sentence that stands ahead of the terms. */
-    void face(String sentence) {
-        checks.about("face: " + sentence);
+    /** A sentence that stands at the document's beginning. */
+    void whatItIs(String sentence) {
+        sentences.name(Sentences.WHAT_IT_IS, sentence);
     }
 
     void promise(int promise, String sentence) {

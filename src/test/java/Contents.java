@@ -1,12 +1,14 @@
 /** Contents and orders, whole ones and spoilt ones, as the grammar allows them. */
 final class Contents {
     private final Dice dice;
-    /** Small areas let formulas meet, great ones reach the sheet's edges. */
+    /** Small areas let formulas meet, great ones, and those that begin far off, reach the sheet's edges. */
+    private final int first;
     private final int rows;
     private final int columns;
 
-    Contents(Dice dice, int rows, int columns) {
+    Contents(Dice dice, int first, int rows, int columns) {
         this.dice = dice;
+        this.first = first;
         this.rows = rows;
         this.columns = columns;
     }
@@ -15,7 +17,7 @@ final class Contents {
         if (dice.oneIn(12)) {
             return dice.below(200);
         }
-        return 10 * dice.below(rows) + dice.below(columns);
+        return first + 10 * dice.below(rows) + dice.below(columns);
     }
 
     static String name(int cell) {

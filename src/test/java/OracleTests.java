@@ -15,7 +15,11 @@ public final class OracleTests {
     private static final Map<String, Method> METHODS = new HashMap<>();
     private static final Grammar GRAMMAR = new Grammar();
 
+    /** Where a run's cells lie: the first one, how many rows, how many columns. */
+    private static final int[][] AREAS = {{0, 4, 3}, {0, 3, 4}, {0, 20, 10}, {0, 6, 5}, {167, 4, 3}, {155, 5, 5}};
+
     private final Dice dice;
+    private final int[] area;
     private final Contents contents;
     private final CalculatedSheet sheet = new CalculatedSheet();
     private final Oracle oracle = new Oracle(GRAMMAR);
@@ -25,9 +29,8 @@ public final class OracleTests {
 
     private OracleTests(int run) {
         dice = new Dice(run);
-        int[] rows = {4, 3, 20, 6};
-        int[] columns = {3, 4, 10, 5};
-        contents = new Contents(dice, rows[run % 4], columns[run % 4]);
+        area = AREAS[run % AREAS.length];
+        contents = new Contents(dice, area[0], area[1], area[2]);
     }
 
     public static void main(String[] args) {
@@ -105,8 +108,15 @@ public final class OracleTests {
     }
 
     private void shift() {
-        both(dice.pick("insertRow", "deleteRow", "insertColumn", "deleteColumn"),
-            dice.oneIn(9) ? dice.below(24) - 2 : dice.below(5));
+        if (dice.oneIn(2)) {
+            both(dice.pick("insertRow", "deleteRow"), line(area[0] / 10));
+        } else {
+            both(dice.pick("insertColumn", "deleteColumn"), line(area[0] % 10));
+        }
+    }
+
+    private int line(int first) {
+        return dice.oneIn(9) ? dice.below(24) - 2 : first + dice.below(5) - (first > 0 ? 2 : 0);
     }
 
     private void whatWouldBe() {
@@ -138,7 +148,11 @@ public final class OracleTests {
                 both("orderAt", dice.below(16) - 1);
                 break;
             case 4:
-                both(dice.pick("columnTotal", "rowTotal"), dice.below(8) - 1);
+                if (dice.oneIn(2)) {
+                    both("columnTotal", line(area[0] % 10));
+                } else {
+                    both("rowTotal", line(area[0] / 10));
+                }
                 break;
             case 5:
                 both("find", number());

@@ -35,7 +35,6 @@ final class QuestionBoundaries {
         numbersFor();
         numbersForCells();
         errorsWithout();
-        manyCalls();
     }
 
     /** What stands for no cell is refused, what stands for the first one and the last one is not. */
@@ -570,14 +569,5 @@ final class QuestionBoundaries {
         bounds.due("", bounds.busy.changedBy(sheet -> sheet.errorsWithout(0)), "asking changes nothing");
         bounds.due("", bounds.busy.changedBy(sheet -> sheet.errorsWithout(2)), "asking changes nothing");
         cells(51, CalculatedSheet::errorsWithout);
-    }
-
-    private void manyCalls() {
-        bounds.face("An object is used for at most 512 calls after it has been made; what later calls answer is free.");
-        CalculatedSheet sheet = new CalculatedSheet();
-        for (int call = 1; call < 512; call++) {
-            bounds.due(0, sheet.setNumber(call % 200, call), "the call " + call);
-        }
-        bounds.due(511, sheet.value(511 % 200), "the call 512");
     }
 }

@@ -10,10 +10,15 @@ import java.util.List;
  */
 final class Sentences {
     static final int TERMS = 0;
+    /** The part behind the last promise: the document's first one. */
+    static final int WHAT_IT_IS = 52;
     private static final Path DOCUMENT = Path.of("../shared/DOC.md");
     private static final String[] HEADINGS = {"Values, errors", "Copying, moving", "Ahead of the calls"};
 
-    /** The terms, then promise after promise; beside each character whether a test has named it. */
+    /**
+     * The terms, then promise after promise, then what the class is; beside each character whether a test has named it.
+     * The public face is left to LanguageTests, and what is not promised needs no test.
+     */
     private final List<String> parts = new ArrayList<>();
     private final List<boolean[]> named = new ArrayList<>();
     private final Checks checks;
@@ -27,7 +32,8 @@ final class Sentences {
                 addPart(sections[place]);
             }
         }
-        checks.due(52, parts.size(), "the document has its terms and 51 promises");
+        checks.due(WHAT_IT_IS, parts.size(), "the document has its terms and 51 promises");
+        addPart(document.substring(document.indexOf("## What it is"), document.indexOf("## The public face")));
     }
 
     private void addPart(String section) {
@@ -55,8 +61,12 @@ final class Sentences {
         return text.trim().replaceAll(" +", " ");
     }
 
+    private static String nameOf(int part) {
+        return part == TERMS ? "terms" : part == WHAT_IT_IS ? "what it is" : "promise " + part;
+    }
+
     void name(int part, String words) {
-        checks.about((part == TERMS ? "terms" : "promise " + part) + ": " + words);
+        checks.about(nameOf(part) + ": " + words);
         int start = parts.get(part).indexOf(plain(words));
         checks.yes(start >= 0, "stands in the document");
         for (int place = start; start >= 0 && place < start + plain(words).length(); place++) {
@@ -72,7 +82,7 @@ final class Sentences {
                 left.append(named.get(part)[place] ? '\n' : parts.get(part).charAt(place));
             }
             for (String words : left.toString().split("\n")) {
-                checks.about(part == TERMS ? "terms" : "promise " + part);
+                checks.about(nameOf(part));
                 checks.no(words.matches(".*[A-Za-z0-9].*"), "has a sentence without a test: " + words.trim());
             }
         }
